@@ -823,14 +823,12 @@ public final class QuiltLaw {
             return values[letter];
         }
 
+        /** A fifth digit is left where it is: no sign of a TEXT can stand there. */
         private int number() {
             int number = 0;
             for (int n = 0; n < MOST_DIGITS && isDigit(here()); n++) {
                 number = number * 10 + here() - '0';
                 step();
-            }
-            if (isDigit(here())) {
-                fail();
             }
             return number;
         }

@@ -128,6 +128,17 @@ public final class PromiseTests {
         c.due("2: refused changes nothing", x.count(4), 159);
         c.due("2: 160", x.feed(0, 0, 0, 0x00010000, 0), 160);
         c.due("2: no more", x.feed(0, 0, 0, 0, 1), NONE);
+        for (int k = 0; k < 5; k++) {
+            int[] one = new int[5];
+            one[k] = 0x00ff0000;
+            c.due("2: not one more", x.feed(one[0], one[1], one[2], one[3], one[4]), NONE);
+            one[k] = 0x7f7f7f7f;
+            x.end(157);
+            c.due("2: not four for three", x.feed(one[0], one[1], one[2], one[3], one[4]), NONE);
+            c.due("2: nothing of it", x.count(4), 157);
+            one[k] = 0x7f7f007f;
+            c.due("2: three for three", x.feed(one[0], one[1], one[2], one[3], one[4]), 160);
+        }
         c.due("2: nothing more", x.feed(0, 0, 0, 0, 0), 160);
         c.due("2: bytes", x.count(4), 160);
         c.no("3: more than there are", x.end(161));
