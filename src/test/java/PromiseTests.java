@@ -28,6 +28,7 @@ public final class PromiseTests {
         t.bars();
         t.late();
         t.twist();
+        t.twistOfEight();
         t.patch();
         t.bids();
         t.lots();
@@ -874,6 +875,29 @@ public final class PromiseTests {
         twistIs(w, 0, 3);
         w.turn(0, 1);
         twistIs(w, 1, 3);
+    }
+
+    /** Each mark that touches another is on no third SQUARE: there is one way alone. */
+    private void twistOfEight() {
+        QuiltLaw x = quilt("gr3c3;se0050;se1160;se1171;se5285;se6392;se7333;se8444;se9994");
+        layAll(x, 0, 1, 2, 3, 4, 5, 6, 7);
+        twistIs(x, 0, 0);
+        for (int square = 7; square >= 0; square--) {
+            x.turn(square, 1 + square % 3);
+            twistIs(x, 8 - square, 0);
+        }
+        c.due("24: eight of eight", x.twist(0), 8);
+        x.take(7);
+        twistIs(x, 7, 0);
+        x.lay(8, 7);
+        // Above 7 now is 5, left of it is nothing: they share no mark.
+        twistIs(x, NONE, NONE);
+        x.take(8);
+        x.take(6);
+        x.lay(8, 6);
+        x.take(5);
+        // 6 lies alone; 2 has nothing below it now, and TURNED by 3 it has a 1 to its left, too: both stay.
+        twistIs(x, 4, 3 * 4096 + 1);
     }
 
     private void twistIs(QuiltLaw x, int many, int turns) {
