@@ -1520,6 +1520,8 @@ public final class QuiltLaw {
 
     /** LAWFUL LAYINGS of all CELLS, in rising order, kept till the quilt is another. */
     private static final class Layings {
+        private static final int ALL_BITS = -1;
+
         private int[] codes = new int[16];
         private int many;
         private int limit;
@@ -1603,17 +1605,20 @@ public final class QuiltLaw {
 
         private int partnersOf(int cell, int[] partners) {
             int square = cell >= 0 && cell < laid.length ? laid[cell] : NONE;
-            return square >= 0 && square < partners.length ? partners[square] : -1;
+            return square >= 0 && square < partners.length ? partners[square] : ALL_BITS;
         }
 
         private boolean rowKeepsWeight(int cell) {
+            int most = WEIGHTS < rules.length ? rules[WEIGHTS] : WEIGHTS_NOT_ASKED;
+            if (most == WEIGHTS_NOT_ASKED || quilt.columnOf(cell) != quilt.columns - 1) {
+                return true;
+            }
             int row = quilt.rowOf(cell);
-            if (row < 0 || row >= weights.length || quilt.columnOf(cell) != quilt.columns - 1) {
+            if (row < 0 || row >= weights.length) {
                 return true;
             }
             weights[row] = weightUpTo(cell);
-            int most = WEIGHTS < rules.length ? rules[WEIGHTS] : WEIGHTS_NOT_ASKED;
-            for (int ahead = 0; ahead < row && most != WEIGHTS_NOT_ASKED; ahead++) {
+            for (int ahead = 0; ahead < row; ahead++) {
                 if (Math.abs(weights[ahead] - weights[row]) > most) {
                     return false;
                 }
