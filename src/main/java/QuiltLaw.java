@@ -614,7 +614,8 @@ public final class QuiltLaw {
         private void items(String letters, int lowest, int[] highest, int[] row, int start) {
             int seen = 0;
             for (int n = 0; n < letters.length(); n++) {
-                int item = letters.indexOf((char) next());
+                int sign = next();
+                int item = sign < 0 ? NONE : letters.indexOf((char) sign);
                 if (item < 0 || item >= highest.length || (seen >> item & 1) != 0) {
                     return;
                 }
@@ -814,7 +815,7 @@ public final class QuiltLaw {
             if (sign == '[') {
                 return within(sign, depth);
             }
-            int letter = LETTERS.indexOf((char) sign);
+            int letter = sign < 0 ? NONE : LETTERS.indexOf((char) sign);
             if (letter < 0 || letter >= values.length) {
                 fail();
                 return 0;

@@ -167,57 +167,57 @@ public final class PromiseTests {
             "sh0d0w0k0l0e0000", "sh9d9w9k2l9e9999", "se0987l1k2w3d4h5", " g r 1 c 2 ; s h 3 e 1234 ; l h 0 s 2 w 9 r 1 e 1 ",
             "lh1s0w0r0e0;s", "se 1234", "s k 2 ;  s"};
         for (String text : whole) {
-            c.due("4: fault of " + text, Checks.fault(x, 0, text), NONE);
+            c.due("4: fault of " + text, Checks.fault(0, text), NONE);
         }
         String[] early = {"", " ", "g", "l", "l;g", "g;", "s;", "s;g;", "g;l ", "sh", "lw", "gr", "se1", "se"};
         for (String text : early) {
-            faultAt(x, 0, text, text.length());
+            faultAt(0, text, text.length());
         }
         String[] atOnce = {"x", "S", ";", "r", "1", "y:1", "G", "\u00f3", "\n"};
         for (String text : atOnce) {
-            faultAt(x, 0, text, 0);
+            faultAt(0, text, 0);
         }
-        faultAt(x, 0, "s;;s", 2);
-        faultAt(x, 0, "s1", 1);
-        faultAt(x, 0, "s,", 1);
-        faultAt(x, 0, "gr0;s", 2);
-        faultAt(x, 0, "gr4;s", 2);
-        faultAt(x, 0, "gc0;s", 2);
-        faultAt(x, 0, "gc4;s", 2);
-        faultAt(x, 0, "gr1c1r1;s", 5);
-        faultAt(x, 0, "gr12;s", 3);
-        faultAt(x, 0, "gh1;s", 1);
-        faultAt(x, 0, "g;s;g", 4);
-        faultAt(x, 0, "s;gr1;s;gr1", 8);
-        faultAt(x, 0, "l;s;l", 4);
-        faultAt(x, 0, "lh2;s", 2);
-        faultAt(x, 0, "ls3;s", 2);
-        faultAt(x, 0, "lw/;s", 2);
-        faultAt(x, 0, "lr2;s", 2);
-        faultAt(x, 0, "le2;s", 2);
-        faultAt(x, 0, "lk1;s", 1);
-        faultAt(x, 0, "lh1s2w3r1e0h1;s", 11);
-        faultAt(x, 0, "lw12;s", 3);
-        faultAt(x, 0, "le00;s", 3);
-        faultAt(x, 0, "sh:", 2);
-        faultAt(x, 0, "sk3", 2);
-        faultAt(x, 0, "sh1h1", 3);
-        faultAt(x, 0, "sh1 2", 4);
-        faultAt(x, 0, "se123", 5);
-        faultAt(x, 0, "se123;s", 5);
-        faultAt(x, 0, "se12 34", 4);
-        faultAt(x, 0, "se12345", 6);
-        faultAt(x, 0, "se123x", 5);
-        faultAt(x, 0, "se1234e1234", 6);
-        faultAt(x, 0, "ss", 1);
-        faultAt(x, 0, "s s", 2);
-        faultAt(x, 0, "s;s;s;s;s;s;s;s;s", 16);
-        faultAt(x, 0, "s ;s;s;s; s;s;s;s; s", 19);
-        faultAt(x, 0, "g  ", 3);
-        faultAt(x, 0, "g;l  ", 5);
-        faultAt(x, 0, "s\t", 1);
-        faultAt(x, 0, "s;\u00f3", 2);
-        faultAt(x, 0, "sh\u00b1", 2);
+        faultAt(0, "s;;s", 2);
+        faultAt(0, "s1", 1);
+        faultAt(0, "s,", 1);
+        faultAt(0, "gr0;s", 2);
+        faultAt(0, "gr4;s", 2);
+        faultAt(0, "gc0;s", 2);
+        faultAt(0, "gc4;s", 2);
+        faultAt(0, "gr1c1r1;s", 5);
+        faultAt(0, "gr12;s", 3);
+        faultAt(0, "gh1;s", 1);
+        faultAt(0, "g;s;g", 4);
+        faultAt(0, "s;gr1;s;gr1", 8);
+        faultAt(0, "l;s;l", 4);
+        faultAt(0, "lh2;s", 2);
+        faultAt(0, "ls3;s", 2);
+        faultAt(0, "lw/;s", 2);
+        faultAt(0, "lr2;s", 2);
+        faultAt(0, "le2;s", 2);
+        faultAt(0, "lk1;s", 1);
+        faultAt(0, "lh1s2w3r1e0h1;s", 11);
+        faultAt(0, "lw12;s", 3);
+        faultAt(0, "le00;s", 3);
+        faultAt(0, "sh:", 2);
+        faultAt(0, "sk3", 2);
+        faultAt(0, "sh1h1", 3);
+        faultAt(0, "sh1 2", 4);
+        faultAt(0, "se123", 5);
+        faultAt(0, "se123;s", 5);
+        faultAt(0, "se12 34", 4);
+        faultAt(0, "se12345", 6);
+        faultAt(0, "se123x", 5);
+        faultAt(0, "se1234e1234", 6);
+        faultAt(0, "ss", 1);
+        faultAt(0, "s s", 2);
+        faultAt(0, "s;s;s;s;s;s;s;s;s", 16);
+        faultAt(0, "s ;s;s;s; s;s;s;s; s", 19);
+        faultAt(0, "g  ", 3);
+        faultAt(0, "g;l  ", 5);
+        faultAt(0, "s\t", 1);
+        faultAt(0, "s;\u00f3", 2);
+        faultAt(0, "sh\u00b1", 2);
         c.due("4: no such sort", x.fault(2), -2);
         c.due("4: no such sort", x.fault(-1), -2);
         Checks.feed(x, "sh1");
@@ -227,82 +227,81 @@ public final class PromiseTests {
         c.due("4: the same TAPE as a LIKING", x.fault(1), 0);
     }
 
-    private void faultAt(QuiltLaw x, int sort, String text, int at) {
-        c.due("4: fault of '" + text + "'", Checks.fault(x, sort, text), at);
+    private void faultAt(int sort, String text, int at) {
+        c.due("4: fault of '" + text + "'", Checks.fault(sort, text), at);
     }
 
     // Promise 4, sort 1.
     private void faultsOfLikings() {
-        QuiltLaw x = new QuiltLaw();
         String[] whole = {
             "y:1", "y:r", "y:c", "y:h", "y:d", "y:w", "y:k", "y:l", "y:0000", "y:9999", "y:[r]", "y : 1 ; y : 2",
             "y:r=1?2", "y:r<1?2", "y:r>1?2;y:3", "y:!r=1?2", "y:(r=1)?2", "y:!(r=1|c=2)&!k=0?w*d/3-[2+h]", "y:r+1=c*2?0",
             "y:[[[[[[1]]]]]]", "y:!!!!!!r=1?1", "y:((((((r=1))))))?1", "y:!(!(!(r=1)))?1", "y:!(!(![r]=1))?[[[[[[2]]]]]]",
             "y:[1]+[[2]]", "y:!!!!!!r=1&!!!!!!c=1?1", " y : ! ( r = 1 ) ? 12 * [ 3 ] "};
         for (String text : whole) {
-            faultAt(x, 1, text, NONE);
+            faultAt(1, text, NONE);
         }
-        faultAt(x, 1, "", 0);
-        faultAt(x, 1, "  ", 2);
-        faultAt(x, 1, "s", 0);
-        faultAt(x, 1, "y", 1);
-        faultAt(x, 1, "y1", 1);
-        faultAt(x, 1, "y:", 2);
-        faultAt(x, 1, "y:;", 2);
-        faultAt(x, 1, "y:?1", 2);
-        faultAt(x, 1, "y:y", 2);
-        faultAt(x, 1, "y:-1", 2);
-        faultAt(x, 1, "y:12345", 6);
-        faultAt(x, 1, "y:00000", 6);
-        faultAt(x, 1, "y:12 34", 5);
-        faultAt(x, 1, "y:1r", 3);
-        faultAt(x, 1, "y:rc", 3);
-        faultAt(x, 1, "y:1;", 4);
-        faultAt(x, 1, "y:1;;", 4);
-        faultAt(x, 1, "y:1;s", 4);
-        faultAt(x, 1, "y:1?2", 3);
-        faultAt(x, 1, "y:1&r=1?2", 3);
-        faultAt(x, 1, "y:r=1", 5);
-        faultAt(x, 1, "y:r=1;y:2", 5);
-        faultAt(x, 1, "y:r=1=1?2", 5);
-        faultAt(x, 1, "y:r==1?2", 4);
-        faultAt(x, 1, "y:r<=1?2", 4);
-        faultAt(x, 1, "y:r=1?", 6);
-        faultAt(x, 1, "y:r=1?r=1", 7);
-        faultAt(x, 1, "y:r=1?r=1?1", 7);
-        faultAt(x, 1, "y:r=1?(1)", 6);
-        faultAt(x, 1, "y:r=1&2?1", 7);
-        faultAt(x, 1, "y:r=1|?1", 6);
-        faultAt(x, 1, "y:(1)", 4);
-        faultAt(x, 1, "y:(r=1", 6);
-        faultAt(x, 1, "y:(r=1]?1", 6);
-        faultAt(x, 1, "y:(r=1)", 7);
-        faultAt(x, 1, "y:(r=1)+1", 7);
-        faultAt(x, 1, "y:(r=1)=1?1", 7);
-        faultAt(x, 1, "y:()", 3);
-        faultAt(x, 1, "y:!1", 4);
-        faultAt(x, 1, "y:!1;", 4);
-        faultAt(x, 1, "y:!?1", 3);
-        faultAt(x, 1, "y:[r=1]", 4);
-        faultAt(x, 1, "y:[!r=1]", 3);
-        faultAt(x, 1, "y:[(r=1)]", 3);
-        faultAt(x, 1, "y:[]", 3);
-        faultAt(x, 1, "y:[1", 4);
-        faultAt(x, 1, "y:[1)", 4);
-        faultAt(x, 1, "y:1]", 3);
-        faultAt(x, 1, "y:1+", 4);
-        faultAt(x, 1, "y:1+*2", 4);
-        faultAt(x, 1, "y:1*-2", 4);
-        faultAt(x, 1, "y:2(r=1)", 3);
-        faultAt(x, 1, "y:[[[[[[[1]]]]]]]", 8);
-        faultAt(x, 1, "y:!!!!!!!r=1?1", 8);
-        faultAt(x, 1, "y:(((((((r=1)))))))?1", 8);
-        faultAt(x, 1, "y:!(!(!([r]=1)))?1", 8);
-        faultAt(x, 1, "y:!(!(!r=[1]))?1", NONE);
-        faultAt(x, 1, "y:!(!(!!r=[1]))?1", 10);
-        faultAt(x, 1, "y:r=[[[[[[[1", 10);
-        faultAt(x, 1, "y:R", 2);
-        faultAt(x, 1, "y:1\u0080", 3);
+        faultAt(1, "", 0);
+        faultAt(1, "  ", 2);
+        faultAt(1, "s", 0);
+        faultAt(1, "y", 1);
+        faultAt(1, "y1", 1);
+        faultAt(1, "y:", 2);
+        faultAt(1, "y:;", 2);
+        faultAt(1, "y:?1", 2);
+        faultAt(1, "y:y", 2);
+        faultAt(1, "y:-1", 2);
+        faultAt(1, "y:12345", 6);
+        faultAt(1, "y:00000", 6);
+        faultAt(1, "y:12 34", 5);
+        faultAt(1, "y:1r", 3);
+        faultAt(1, "y:rc", 3);
+        faultAt(1, "y:1;", 4);
+        faultAt(1, "y:1;;", 4);
+        faultAt(1, "y:1;s", 4);
+        faultAt(1, "y:1?2", 3);
+        faultAt(1, "y:1&r=1?2", 3);
+        faultAt(1, "y:r=1", 5);
+        faultAt(1, "y:r=1;y:2", 5);
+        faultAt(1, "y:r=1=1?2", 5);
+        faultAt(1, "y:r==1?2", 4);
+        faultAt(1, "y:r<=1?2", 4);
+        faultAt(1, "y:r=1?", 6);
+        faultAt(1, "y:r=1?r=1", 7);
+        faultAt(1, "y:r=1?r=1?1", 7);
+        faultAt(1, "y:r=1?(1)", 6);
+        faultAt(1, "y:r=1&2?1", 7);
+        faultAt(1, "y:r=1|?1", 6);
+        faultAt(1, "y:(1)", 4);
+        faultAt(1, "y:(r=1", 6);
+        faultAt(1, "y:(r=1]?1", 6);
+        faultAt(1, "y:(r=1)", 7);
+        faultAt(1, "y:(r=1)+1", 7);
+        faultAt(1, "y:(r=1)=1?1", 7);
+        faultAt(1, "y:()", 3);
+        faultAt(1, "y:!1", 4);
+        faultAt(1, "y:!1;", 4);
+        faultAt(1, "y:!?1", 3);
+        faultAt(1, "y:[r=1]", 4);
+        faultAt(1, "y:[!r=1]", 3);
+        faultAt(1, "y:[(r=1)]", 3);
+        faultAt(1, "y:[]", 3);
+        faultAt(1, "y:[1", 4);
+        faultAt(1, "y:[1)", 4);
+        faultAt(1, "y:1]", 3);
+        faultAt(1, "y:1+", 4);
+        faultAt(1, "y:1+*2", 4);
+        faultAt(1, "y:1*-2", 4);
+        faultAt(1, "y:2(r=1)", 3);
+        faultAt(1, "y:[[[[[[[1]]]]]]]", 8);
+        faultAt(1, "y:!!!!!!!r=1?1", 8);
+        faultAt(1, "y:(((((((r=1)))))))?1", 8);
+        faultAt(1, "y:!(!(!([r]=1)))?1", 8);
+        faultAt(1, "y:!(!(!r=[1]))?1", NONE);
+        faultAt(1, "y:!(!(!!r=[1]))?1", 10);
+        faultAt(1, "y:r=[[[[[[[1", 10);
+        faultAt(1, "y:R", 2);
+        faultAt(1, "y:1\u0080", 3);
     }
 
     // Promise 5.

@@ -15,7 +15,6 @@ public final class TextTests {
     private final Checks c = new Checks("TextTests");
     private final Random random = new Random(4711);
     private final Texts texts = new Texts(random);
-    private final QuiltLaw x = new QuiltLaw();
 
     public static void main(String[] args) {
         TextTests t = new TextTests();
@@ -30,7 +29,7 @@ public final class TextTests {
         for (int n = 0; n < 900; n++) {
             int rows = 1 + random.nextInt(3);
             String text = texts.quilt(rows, 1 + random.nextInt(3), 1 + random.nextInt(5), n).text;
-            c.due("fault(0) of '" + text + "'", Checks.fault(x, 0, text), NONE);
+            c.due("fault(0) of '" + text + "'", Checks.fault(0, text), NONE);
             quiltFault(texts.spoilt(text, QUILT_SIGNS));
         }
         for (int n = 0; n < 400; n++) {
@@ -38,11 +37,12 @@ public final class TextTests {
         }
         quiltFault("s;s;s;s;s;s;s;s;s");
         quiltFault("g;s;s;s;s;s;s;s;s;s");
+        quiltFault("g;l;s;s;s;s;s;s;s;s;s");
     }
 
     private void quiltFault(String text) {
         if (text.length() <= 160) {
-            c.due("fault(0) of '" + text + "'", Checks.fault(x, 0, text), quiltFaultOf(text));
+            c.due("fault(0) of '" + text + "'", Checks.fault(0, text), quiltFaultOf(text));
         }
     }
 
@@ -86,7 +86,7 @@ public final class TextTests {
         for (int n = 0; n < 900; n++) {
             String text = texts.liking(2).text;
             if (text.length() <= 160) {
-                c.due("fault(1) of '" + text + "'", Checks.fault(x, 1, text), NONE);
+                c.due("fault(1) of '" + text + "'", Checks.fault(1, text), NONE);
             }
             if (text.length() <= 40) {
                 likingFault(texts.spoilt(text, LIKING_SIGNS));
@@ -119,7 +119,7 @@ public final class TextTests {
     }
 
     private void likingFault(String text) {
-        c.due("fault(1) of '" + text + "'", Checks.fault(x, 1, text), likingFaultOf(text));
+        c.due("fault(1) of '" + text + "'", Checks.fault(1, text), likingFaultOf(text));
     }
 
     private static int likingFaultOf(String text) {
