@@ -573,6 +573,11 @@ final class LayBoundaries {
             c.due("the oldest", x.undo(), 0);
             liesAre(c, x, NONE, NONE, NONE);
             c.due("LAYINGS again", x.layings(NONE), 6);
+            x.lay(0, 1);
+            c.due("LAYINGS with SQUARE 1 there", x.layings(0), 102);
+            x.undo();
+            x.lay(0, 2);
+            c.due("LAYINGS with SQUARE 2 there", x.layings(0), 201);
         });
         b.promise(13, "NONE: none.", c -> {
             Twins.refusedWithoutQuilt(c, "without a QUILT", NONE, QuiltLaw::undo);

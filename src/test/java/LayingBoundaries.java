@@ -88,6 +88,23 @@ final class LayingBoundaries {
             layingsAre(c, laid("gr1c3;s;s;sh1", 0, 1));
             layingsAre(c, laid("gr1c3;s;s;sh1", 0, NONE, 1), 21);
         });
+        b.term(3, "in which those that lie stay,", c -> {
+            QuiltLaw x = Checks.quilt("gr1c2;lh0;s;s;s");
+            layingsAre(c, x, 1, 2, 10, 12, 20, 21);
+            x.lay(0, 1);
+            layingsAre(c, x, 10, 12);
+            x.take(0);
+            x.turn(0, 1);
+            x.turn(1, 1);
+            x.lay(0, 2);
+            layingsAre(c, x, 20, 21);
+            x.turn(0, 2);
+            x.lay(1, 0);
+            layingsAre(c, x, 20);
+            x.change(2, 3);
+            x.take(0);
+            layingsAre(c, x, 10, 20);
+        });
         b.term(3, "TURNED as they are:", c -> {
             QuiltLaw x = Checks.quilt("gr1c2;lh0e1;se0100;se0010");
             layingsAre(c, x, 10);
@@ -140,6 +157,12 @@ final class LayingBoundaries {
             bestIs(c, liking(again, "y:0-l"), 2, -3);
             again.liking(NONE);
             bestIs(c, again, 12, 5);
+            QuiltLaw smaller = Checks.quilt("gr2c3;lh0;sl9;sl9;sl9;sl9;sl9;sl9;sl9;sl9");
+            bestIs(c, smaller, 12345, 54);
+            for (int cells = 3; cells > 0; cells--) {
+                Checks.take(smaller, 0, "gr1c" + cells + ";lh0;sl1;sl3;sl2");
+                bestIs(c, smaller, new int[] {1, 12, 12}[cells - 1], new int[] {3, 5, 6}[cells - 1]);
+            }
         });
     }
 
@@ -233,6 +256,11 @@ final class LayingBoundaries {
             twistIs(c, laid("gr2c1;se1121;se3133", 0, 1), 2, 7);
             twistIs(c, laid("gr2c2;se1111;se2222", 0, NONE, NONE, 1), 0, 0);
             twistIs(c, laid("gr3c3;" + EIGHT, 0, 1, 2, 3, 4, 5, 6, 7), 0, 0);
+            // Marks fit only as they are told: all eight have to go back.
+            String unlike = "gr3c3;se0050;se1160;se1171;se5285;se6392;se7333;se8444;se9994";
+            twistIs(c, laid(unlike, 0, 1, 2, 3, 4, 5, 6, 7), 0, 0);
+            twistIs(c, turned(laid(unlike, 0, 1, 2, 3, 4, 5, 6, 7), 1, 2, 3, 1, 2, 3, 1), 7, 0);
+            twistIs(c, turned(laid(unlike, 0, 1, 2, 3, 4, 5, 6, 7), 1, 2, 3, 1, 2, 3, 1, 2), 8, 0);
             QuiltLaw x = laid("gr1c2;se0100;se0000", 0, 1);
             twistIs(c, x, 1, 4);
             c.due("nothing is TURNED by that", Checks.square(x, 0, 6), 0);
@@ -470,6 +498,7 @@ final class LayingBoundaries {
             c.due("as it was", swapped(laid("s;s;s;s", 0, 1, 2, 3), 0, 1, 2, 3).swaps(), 0);
             c.due("a ring of two", swapped(laid("s;s;s;s", 0, 1, 2, 3), 1, 0, 2, 3).swaps(), 1);
             c.due("two rings of two", swapped(laid("s;s;s;s", 0, 1, 2, 3), 1, 0, 3, 2).swaps(), 2);
+            c.due("two rings of two, crosswise", swapped(laid("s;s;s;s", 0, 1, 2, 3), 2, 3, 0, 1).swaps(), 2);
             c.due("a ring of three", swapped(laid("s;s;s;s", 0, 1, 2, 3), 1, 2, 0, 3).swaps(), 2);
             c.due("a ring of four", swapped(laid("s;s;s;s", 0, 1, 2, 3), 1, 2, 3, 0).swaps(), 3);
             c.due("a ring of eight", swapped(laid("gr3c3;" + EIGHT, 0, 1, 2, 3, NONE, 4, 5, 6, 7), 1, 2, 3, 4, NONE, 5, 6, 7, 0).swaps(), 7);

@@ -267,6 +267,11 @@ final class TextBoundaries {
             worth(c, "!r=1|c=2?5;y:6", 5);
             worth(c, "!r=0&c=0?5;y:6", 6);
             worth(c, "(r=1|c=2)&h=0?5;y:6", 6);
+            worth(c, "(r=1|c=0)&h=3?5;y:6", 5);
+            worth(c, "((r=1))?5;y:6", 5);
+            worth(c, "((r=0))?5;y:6", 6);
+            worth(c, "!(r=1|c=0)?5;y:6", 6);
+            worth(c, "(!r=0)?5;y:6", 5);
             worth(c, "!(r=0|c=0)?5;y:6", 5);
             worth(c, "4<4?1;y:4>4?2;y:4=4?3", 3);
             worth(c, "4<5?1;y:2", 1);
@@ -465,6 +470,14 @@ final class TextBoundaries {
             quiltFault(c, "g;l;s;s;s;s;s;s;s;s;", 19);
             quiltFault(c, "g;s;s;s;s;s;s;s;s;x", 18);
             likingFault(c, "y:1x;y", 3);
+            for (char sign = 1; sign < 256; sign++) {
+                if ("; hdwkle".indexOf(sign) < 0) {
+                    quiltFault(c, "s" + sign, 1);
+                }
+                if ("0123456789; +-*/=<>".indexOf(sign) < 0) {
+                    likingFault(c, "y:1" + sign, 3);
+                }
+            }
             likingFault(c, "y:r=1?2&c=1?3", 7);
         });
         b.term(1, "(the length, if it ends too early, or without a SQUARE):", c -> {
@@ -591,6 +604,14 @@ final class TextBoundaries {
         return x;
     }
 
+    /** The FAULT of a text's first n bytes: what is gone is not read any more. */
+    private static void cut(Checks c, int sort, String text, int n, int fault) {
+        QuiltLaw x = new QuiltLaw();
+        Checks.feed(x, text);
+        x.end(n);
+        c.due("fault of '" + text + "' cut to " + n, x.fault(sort), fault);
+    }
+
     private void end() {
         b.promise(3, "The TAPE has its first n bytes alone.", c -> {
             QuiltLaw x = new QuiltLaw();
@@ -609,6 +630,18 @@ final class TextBoundaries {
             c.yes("none", x.end(0));
             c.due("none", x.count(4), 0);
             c.due("none", x.fault(0), 0);
+            cut(c, 0, "sh1", 2, 2);
+            cut(c, 0, "se1234", 5, 5);
+            cut(c, 0, "s; s", 2, 2);
+            cut(c, 0, "s;s", 1, NONE);
+            cut(c, 1, "y: 1", 2, 2);
+            cut(c, 1, "y:12", 3, NONE);
+            QuiltLaw one = LayBoundaries.laid("s", 0);
+            Checks.feed(one, "y:12");
+            one.end(3);
+            one.text(1);
+            one.liking(0);
+            c.due("the digit that is gone does not count", one.liked(), 1);
         });
         b.promise(3, "False: n.", c -> {
             // Twins.rich leaves five bytes on the TAPE.
