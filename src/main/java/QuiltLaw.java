@@ -1567,7 +1567,7 @@ public final class QuiltLaw {
                 stays[cell] = allStay ? of.at(cell) : NONE;
                 used |= stays[cell] == NONE ? 0 : 1 << stays[cell];
             }
-            for (int square = 0; square < beside.length; square++) {
+            for (int square = 0; square < beside.length && square < below.length; square++) {
                 beside[square] = of.partners(square, false, law);
                 below[square] = of.partners(square, true, law);
             }
