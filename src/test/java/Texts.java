@@ -54,7 +54,7 @@ final class Texts {
         if (ground) {
             clauses.add(random.nextInt(clauses.size() + 1), ground(said, rows, columns, blanks));
         }
-        if (squares < 8 && chance(4, 5) || squares == 8 && !ground) {
+        if (chance(4, 5)) {
             clauses.add(random.nextInt(clauses.size() + 1), law(said, blanks, style));
         }
         StringBuilder text = new StringBuilder(blanks(blanks));
