@@ -12,7 +12,6 @@ import java.util.regex.Matcher;
 import java.util.regex.Pattern;
 import java.util.stream.Collectors;
 import java.util.stream.Stream;
-import javax.tools.ToolProvider;
 
 /** README.md: the calls that it shows answer as it says, its feed feeds, it names every call of the face and every test. */
 public final class ReadmeTests {
@@ -103,8 +102,9 @@ public final class ReadmeTests {
         Path folder = Files.createTempDirectory("readme");
         Path source = folder.resolve("Shown.java");
         Files.writeString(source, "public final class Shown { public " + shown.group(1) + "}", StandardCharsets.UTF_8);
-        String[] options = {"-cp", System.getProperty("java.class.path"), "-d", folder.toString(), source.toString()};
-        c.due("the feed that is shown can be built", ToolProvider.getSystemJavaCompiler().run(null, null, null, options), 0);
+        String built = System.getProperty("java.class.path");
+        Process javac = new ProcessBuilder("javac", "-cp", built, "-d", folder.toString(), source.toString()).inheritIO().start();
+        c.due("the feed that is shown can be built", javac.waitFor(), 0);
         try (URLClassLoader loader = new URLClassLoader(new URL[] {folder.toUri().toURL()})) {
             Method feed = loader.loadClass("Shown").getMethod("feed", QuiltLaw.class, String.class);
             for (String some : new String[] {"", "s", "gr1c2;sh1d2w3k2;sh2", "gr1c2;sh1d2w3k2l4;sh", "gr1c2;sh1d2w3k2l4;sh9"}) {
